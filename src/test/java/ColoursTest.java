@@ -108,6 +108,8 @@ public final class ColoursTest {
     bad("a:gold 1 to 2; ", 15);
     bad("5:gold 1 to 2", 0);
     bad("  ;", 2);
+    bad(":gold 1 to 2", 0);
+    bad("a:gold 1 to 2;:gold 1 to 2", 14);
     bad("a b:gold 1 to 2", 2);
     bad("a5:gold 1 to 2", 1);
     bad("a;gold 1 to 2", 1);
@@ -169,6 +171,7 @@ public final class ColoursTest {
     bad(ten + ";k", 140);
     bad(ten + "; k:gold 1 to 2", 141);
     bad(ten + ";a", 140);
+    bad(ten + ";:gold 1 to 2", 140);
     bad(ten + " k", 140);
   }
 
