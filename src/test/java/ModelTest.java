@@ -2,8 +2,9 @@ import java.util.Random;
 
 /** Long runs of mixed calls, right ones and wild ones: each answer is held against PlainHouse. */
 public final class ModelTest {
-  private static final int RUNS = 3000;
-  private static final int CALLS = 512;
+  private static final int RUNS = 12_000;
+  // The document promises nothing behind an object's 512th call; the dearest step has twenty.
+  private static final int CALLS = 512 - 20;
   private static final int[] WILD = {
     Integer.MIN_VALUE, Integer.MIN_VALUE + 1, -1_000_000_001, -1_000_001, -1_000_000, -2, -1, 0, 1, 2, 3, 4,
     9, 10, 11, 20, 21, 50, 51, 59, 60, 61, 99, 100, 101, 119, 120, 121, 200, 201, 255, 256, 300, 1000, 1001,
@@ -22,11 +23,12 @@ public final class ModelTest {
   // Some runs stay within one part of the house, so that its limits are reached.
   private final int first;
   private final int last;
+  private int used = 0;
 
   private ModelTest(Check check, int run) {
     this.check = check;
     this.random = new Random(run);
-    int[][] parts = {{0, 27}, {0, 6}, {0, 21}, {5, 10}, {11, 15}, {22, 25}};
+    int[][] parts = {{0, 27}, {0, 6}, {0, 2}, {0, 21}, {5, 10}, {11, 15}, {22, 25}, {22, 24}};
     int[] part = parts[run % parts.length];
     this.first = part[0];
     this.last = part[1];
@@ -36,10 +38,8 @@ public final class ModelTest {
     Check check = new Check("ModelTest");
     for (int run = 0; run < RUNS && check.isClean(); run++) {
       ModelTest test = new ModelTest(check, run);
-      for (int call = 0; call < CALLS && check.isClean(); call++) {
-        String where = "run " + run + ", call " + call + ": ";
-        test.call(where, test.first + test.random.nextInt(test.last - test.first + 1));
-        check.due(where + "status()", test.x.status(), test.plain.status());
+      while (test.used < CALLS && check.isClean()) {
+        test.step("run " + run + ", call " + test.used + ": ");
       }
     }
     check.finish();
@@ -58,7 +58,15 @@ public final class ModelTest {
   }
 
   private void due(String call, long got, long want) {
+    used++;
     check.due(call, got, want);
+  }
+
+  private void step(String at) {
+    call(at, first + random.nextInt(last - first + 1));
+    if (random.nextInt(3) == 0) {
+      due(at + "status()", x.status(), plain.status());
+    }
   }
 
   private void call(String at, int which) {
@@ -87,9 +95,8 @@ public final class ModelTest {
       case 2 -> due(at + "melt " + a + " " + b, x.melt(a, b), plain.melt(a, b));
       case 3 -> due(at + "weight " + a, x.weight(a), plain.weight(a));
       case 4 -> {
-        for (int bar = -1; bar < 11; bar++) {
-          due(at + "from " + a + " " + bar, x.from(a, bar), plain.from(a, bar));
-        }
+        int bar = pick(-1, (int) plain.count(0));
+        due(at + "from " + a + " " + bar, x.from(a, bar), plain.from(a, bar));
       }
       case 5 -> due(at + "part " + a + " " + m, x.part(a, m), plain.part(a, m));
       case 6 -> due(at + "colour " + a, x.colour(a), plain.colour(a));
@@ -194,9 +201,8 @@ public final class ModelTest {
       }
       case 25 -> due(at + "missing", x.missing(room, known), plain.missing(room, known));
       default -> {
-        for (int what = -1; what < 10; what++) {
-          due(at + "count " + what, x.count(what), plain.count(what));
-        }
+        int what = pick(-1, 9);
+        due(at + "count " + what, x.count(what), plain.count(what));
       }
     }
   }
