@@ -28,7 +28,6 @@ public final class GoldLeaves {
     private static final int MAX_SKINS = 60;
     private static final int MAX_DRYNESS = 100;
     private static final int MAX_AGE_ASKED = 100;
-    private static final int SORTS = 3;
     private static final int MAX_PACK_SKINS = 20;
     private static final int MAX_PACKS_ASKED = 20;
 
@@ -45,9 +44,9 @@ public final class GoldLeaves {
     private static final int LAST_HOUR = 1000;
 
     private final Stock stock = new Stock();
-    private final Bindery bindery = new Bindery(stock);
-    private final Tape tape = new Tape();
-    private final ColourReader reader = new ColourReader(tape);
+    private final Bindery bindery = new Bindery();
+    private final ColourReader reader = new ColourReader();
+    private final Tape tape = reader.tape;
     private final SkinChest chest = new SkinChest();
     private final Gatehouse gates = new Gatehouse();
     // Two palettes change places, so that a TEXT with a FAULT leaves the COLOURS as they were.
@@ -147,11 +146,11 @@ public final class GoldLeaves {
     }
 
     public int pack(int sort, int skins, int ageFrom, int ageTo, int dryFrom, int dryTo) {
-        if (!within(sort, 0, SORTS - 1) || !within(skins, 1, MAX_PACK_SKINS)
+        PackNeed need = chest.needOf(sort);
+        if (need == null || !within(skins, 1, MAX_PACK_SKINS)
                 || !isSpan(ageFrom, ageTo, MAX_AGE_ASKED) || !isSpan(dryFrom, dryTo, MAX_DRYNESS)) {
             return noted(BAD_NUMBER);
         }
-        PackNeed need = chest.needs[sort];
         need.skins = skins;
         need.ageFrom = ageFrom;
         need.ageTo = ageTo;
@@ -165,7 +164,7 @@ public final class GoldLeaves {
     }
 
     public int leaf(int piece, int area) {
-        return noted(bindery.makeLeaf(piece, area));
+        return noted(bindery.makeLeaf(stock.living(piece), area));
     }
 
     public int flatter(int a, int b) {
@@ -179,7 +178,7 @@ public final class GoldLeaves {
     }
 
     public int bind(int n) {
-        return noted(bindery.bindBooks(n));
+        return noted(bindery.bindBooks(stock, n));
     }
 
     public int book(int piece) {
@@ -439,20 +438,15 @@ public final class GoldLeaves {
 
     /** LEAVES and BOOKS. */
     private static final class Bindery {
-        private final Stock stock;
         int leafCount = 0;
         int bookCount = 0;
         private int boundLeaves = 0;
 
-        Bindery(Stock stock) {
-            this.stock = stock;
-        }
-
-        int makeLeaf(int number, int area) {
+        /** A null stands for a PIECE that there is not. */
+        int makeLeaf(Piece piece, int area) {
             if (!within(area, 1, MAX_AREA)) {
                 return BAD_NUMBER;
             }
-            Piece piece = stock.living(number);
             if (piece == null) {
                 return NO_SUCH;
             }
@@ -464,7 +458,7 @@ public final class GoldLeaves {
             return leafCount;
         }
 
-        int bindBooks(int n) {
+        int bindBooks(Stock stock, int n) {
             if (!within(n, 1, MAX_BOOK_LEAVES)) {
                 return BAD_NUMBER;
             }
@@ -637,13 +631,9 @@ public final class GoldLeaves {
 
     /** Reads COLOURS off the TAPE; where it stops without success, the TAPE's TOKEN is the FAULT. */
     private static final class ColourReader {
-        private final Tape tape;
+        final Tape tape = new Tape();
         private final int[] nameStarts = new int[MAX_COLOURS];
         private final int[] nameStops = new int[MAX_COLOURS];
-
-        ColourReader(Tape tape) {
-            this.tape = tape;
-        }
 
         boolean readInto(Palette palette) {
             palette.empty();
@@ -751,7 +741,7 @@ public final class GoldLeaves {
 
     /** All SKINS, and the sorts of PACKS. */
     private static final class SkinChest {
-        final PackNeed[] needs = new PackNeed[] {new PackNeed(), new PackNeed(), new PackNeed()};
+        private final PackNeed[] needs = new PackNeed[] {new PackNeed(), new PackNeed(), new PackNeed()};
         final int[] ages = new int[MAX_SKINS];
         private final int[] drynesses = new int[MAX_SKINS];
         private final boolean[] chosen = new boolean[MAX_SKINS];
@@ -759,6 +749,11 @@ public final class GoldLeaves {
 
         boolean has(int number) {
             return number >= 0 && number < size;
+        }
+
+        /** What PACKS of that sort need; null if there is no such sort. */
+        PackNeed needOf(int sort) {
+            return sort >= 0 && sort < needs.length ? needs[sort] : null;
         }
 
         int addSkin(int dryness) {
@@ -786,11 +781,12 @@ public final class GoldLeaves {
         }
 
         int beatPacks(int sort, int asked) {
-            if (!within(sort, 0, SORTS - 1) || !within(asked, 0, MAX_PACKS_ASKED)) {
+            PackNeed need = needOf(sort);
+            if (need == null || !within(asked, 0, MAX_PACKS_ASKED)) {
                 return BAD_NUMBER;
             }
             int beaten = 0;
-            while (beaten < asked && chooseFor(needs[sort])) {
+            while (beaten < asked && chooseFor(need)) {
                 ageChosen();
                 beaten++;
             }
