@@ -2,13 +2,10 @@ import java.lang.reflect.Constructor;
 import java.lang.reflect.Field;
 import java.lang.reflect.Method;
 import java.lang.reflect.Modifier;
-import java.nio.file.Files;
-import java.nio.file.Path;
 import java.util.Set;
 import java.util.TreeSet;
-import java.util.regex.Pattern;
 
-/** The public face, and the rules of LANGUAGE.md that can be seen from outside or by a word. */
+/** The public face, and rule 1 of LANGUAGE.md. */
 public final class FaceTest {
   private static final Check CHECK = new Check("FaceTest");
   private static final Set<String> FACE = Set.of(
@@ -19,10 +16,9 @@ public final class FaceTest {
       "int bind(int)", "int book(int)", "long surface(int,int,int,int)", "int pass(int,int,int,int)",
       "int held(int,int,int)", "int find(int,int,int)", "int missing(int,int)", "int count(int)", "int status()");
 
-  public static void main(String[] args) throws Exception {
+  public static void main(String[] args) {
     methods();
     fieldsAndConstructors();
-    words();
     CHECK.finish();
   }
 
@@ -73,17 +69,5 @@ public final class FaceTest {
     CHECK.due("constructors", made.length, 1);
     CHECK.holds("it is public and takes nothing",
         made[0].getModifiers() == Modifier.PUBLIC && made[0].getParameterCount() == 0);
-  }
-
-  private static void words() throws Exception {
-    String source = Files.readString(Path.of("src/main/java/GoldLeaves.java"));
-    String code = source.replaceAll("(?s)/\\*.*?\\*/", " ").replaceAll("//[^\n]*", " ");
-    for (String word : new String[] {"throw", "throws", "try", "catch", "synchronized", "assert", "import",
-      "package", "System", "Random", "Object", "hashCode", "toString", "native", "volatile", "protected"}) {
-      CHECK.holds("no word '" + word + "'", !Pattern.compile("\\b" + word + "\\b").matcher(code).find());
-    }
-    CHECK.holds("no lambda and no method reference", !code.contains("->") && !code.contains("::"));
-    CHECK.holds("no function that ends in Exact", !code.contains("Exact("));
-    CHECK.holds("no loop without an end", !code.contains("while (true)") && !code.contains("for (;;)"));
   }
 }
